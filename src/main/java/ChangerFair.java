@@ -1010,10 +1010,13 @@ public final class ChangerFair {
         int paymentCount;
         private final long[] left = new long[HOUSES];
         private final long[] sums = new long[SETS];
+        // The sets of nets 0 together, the lesser as bits first, and how many groups each can make.
+        private final int[] zeroSets = new int[SETS];
         private final int[] mostGroups = new int[SETS];
         private final int[] payers = new int[HOUSES];
         private final int[] payees = new int[HOUSES];
         private final long[] amounts = new long[HOUSES];
+        private int zeroSetCount;
         private long changesSeen = -1;
 
         void refresh(Book book) {
@@ -1024,9 +1027,11 @@ public final class ChangerFair {
             groupCount = 0;
             paymentCount = 0;
             int rest = readNets(book);
-            countGroups(rest);
+            addUp();
+            listZeroSets(rest);
+            countGroups();
             for (int i = 0; i < HOUSES && rest != 0; i++) {
-                int group = leastGroup(rest);
+                int group = firstGroup(rest);
                 payWithin(group);
                 groupCount++;
                 rest ^= group;
@@ -1062,29 +1067,48 @@ public final class ChangerFair {
             return all;
         }
 
-        // Taking the houses of a set away one by one, each set of sum 0 on the way ends one group;
-        // so a set holds one group more than the best set that lacks one house, if its sum is 0.
-        private void countGroups(int all) {
-            for (int set = 1; set <= all; set++) {
-                if ((set & all) == set) {
-                    int most = 0;
-                    for (int house = 0; house < HOUSES; house++) {
-                        int one = 1 << house;
-                        if ((set & one) != 0) {
-                            most = Math.max(most, mostGroups[set ^ one]);
-                            sums[set] = sums[set ^ one] + left[house];
-                        }
-                    }
-                    mostGroups[set] = sums[set] == 0 ? most + 1 : most;
+        private void addUp() {
+            for (int house = 0; house < HOUSES; house++) {
+                int one = 1 << house;
+                for (int set = 0; set < one; set++) {
+                    sums[set | one] = sums[set] + left[house];
                 }
             }
         }
 
-        private int leastGroup(int rest) {
-            int least = rest & -rest;
-            for (int set = least; set < rest; set++) {
-                if ((set & rest) == set && (set & least) != 0 && sums[set] == 0
-                        && mostGroups[rest ^ set] + 1 == mostGroups[rest]) {
+        private void listZeroSets(int all) {
+            zeroSetCount = 0;
+            for (int set = 1; set <= all; set++) {
+                if ((set & all) == set && sums[set] == 0) {
+                    zeroSets[zeroSetCount] = set;
+                    zeroSetCount++;
+                }
+            }
+        }
+
+        // Sets come in the order of their numbers, so all parts of a set are counted before it.
+        private void countGroups() {
+            for (int i = 0; i < zeroSetCount; i++) {
+                int whole = zeroSets[i];
+                int most = 1;
+                for (int j = 0; j < i; j++) {
+                    if (mayBeFirst(zeroSets[j], whole)) {
+                        most = Math.max(most, 1 + mostGroups[whole ^ zeroSets[j]]);
+                    }
+                }
+                mostGroups[whole] = most;
+            }
+        }
+
+        private static boolean mayBeFirst(int set, int whole) {
+            int least = whole & -whole;
+            return (set & whole) == set && (set & least) != 0;
+        }
+
+        private int firstGroup(int rest) {
+            for (int i = 0; i < zeroSetCount; i++) {
+                int set = zeroSets[i];
+                if (mayBeFirst(set, rest) && mostGroups[rest ^ set] + 1 == mostGroups[rest]) {
                     return set;
                 }
             }
@@ -1286,7 +1310,6 @@ public final class ChangerFair {
         void begin() {
             for (int house = 0; house < HOUSES; house++) {
                 pledged[house] = 0;
-                rest[house] = 0;
             }
         }
 

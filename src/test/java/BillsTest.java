@@ -427,6 +427,7 @@ public final class BillsTest {
         ChangerFair x = new ChangerFair();
         x.draw(0, 0, 1, 2, 10);
         x.take(0, false);
+        due.is("what hasn't been isn't known", 1, x.knows(3, 0, 1000));
         x.days(8);
         x.pay(0);
         due.is("taken, not drawn, on one day", 1, x.knows(3, 0, 0));

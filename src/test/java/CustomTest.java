@@ -118,6 +118,13 @@ public final class CustomTest {
         bad("bind" + (char) 0, 4);
         bad("bind free !", 5);
         bad("bind ! free free", 5);
+        bad("bindz", 0);
+        bad("zbind", 0);
+        bad("bind if < 3", 8);
+        bad("bind if = 3", 8);
+        bad("bind if 3 < late", 8);
+        bad("bind if late bind 3", 13);
+        bad("bind if late ; 3", 13);
         bad("{", 0);
         bad("`", 0);
         bad("bind if late < 3:", 16);
@@ -152,11 +159,16 @@ public final class CustomTest {
         due.is("binds as before", 0, x.binds(4, 0, 1, 0, 0));
         due.is("binds as before", 1, x.binds(3, 0, 1, 0, 0));
         due.is("binds as before", 0, x.binds(3, 0, 2, 0, 0));
+        due.is("read", Due.TEXT, Due.read(x, "bind; bindfree"));
         due.is("feeding leaves the fault", 4, Due.feed(x, "bind"));
         due.is("fault()", 6, x.fault());
         due.is("read", 1, x.read());
         due.is("fault()", -1, x.fault());
         due.is("binds", 1, x.binds(4, 0, 1, 0, 0));
+        due.is("bytes of an earlier tape are no more there", 1, Due.read(x, "free"));
+        due.is("read", 1, Due.read(x, "free if late > 77777"));
+        due.is("read", 1, Due.read(x, "free if late > 7"));
+        due.is("the number is 7", 0, x.binds(8, 0, 0, 0, 0));
         due.is("read nothing", 0, x.read());
         due.is("count(2)", 0, x.count(2));
     }

@@ -75,6 +75,9 @@ public final class DaysTest {
         due.is("twice the gain, and once more", 151 + 15 + 16 + 18, x.owes(0, 1));
         due.is("49 thrice", 49 + 4 + 5 + 5, x.owes(3, 2));
         due.is("other way", 0, x.owes(1, 0));
+        x.owe(9, 0, 1000);
+        x.days(28);
+        due.is("debts to house 0 are carried, too", 1100, x.owes(9, 0));
     }
 
     private static void daysFull() {
@@ -104,6 +107,18 @@ public final class DaysTest {
         x.gain(0);
         due.is("days(1) without gain", day + 28, x.days(1));
         due.is("no gain", debt, x.owes(0, 1));
+        mostIsNotFull();
+    }
+
+    private static void mostIsNotFull() {
+        ChangerFair x = new ChangerFair();
+        BillsTest.fillDebt(x);
+        x.gain(0);
+        long day = x.count(0);
+        due.is("a debt of 1000000000 may be carried", day + 60, x.days(60));
+        due.is("owes", 1000000000L, x.owes(0, 1));
+        x.gain(1);
+        due.is("but not with a gain", Due.FULL, x.days(60));
     }
 
     private static void gain() {

@@ -6,6 +6,7 @@ public final class PartTest {
         beyond();
         oneRank();
         leftOver();
+        houseZero();
         pledges();
         pledgesAtMostWhatIsOwed();
         onlyPaidPledgesCount();
@@ -60,8 +61,25 @@ public final class PartTest {
         due.is("2 of 30", 0, x.part(5, 2, 7));
     }
 
+    private static void houseZero() {
+        ChangerFair x = new ChangerFair();
+        int bill = pledge(x, 5, 0, 10);
+        x.days(7);
+        x.pay(bill);
+        x.owe(5, 0, 10);
+        x.owe(5, 1, 1);
+        x.owe(5, 2, 2);
+        for (int i = 0; i < 3; i++) {
+            due.is("house 0 in both ranks: 10 and 3, and 1 of 2 left over", 14, x.part(5, 15, 0));
+            due.is("a claim of 1 takes what is left over", 1, x.part(5, 15, 1));
+            due.is("before a claim of 2", 0, x.part(5, 15, 2));
+        }
+        due.is("house 0 in rank 0", 10, x.part(5, 10, 0));
+        due.is("house 0 takes the first that is left over", 11, x.part(5, 11, 0));
+    }
+
     private static int pledge(ChangerFair x, int drawee, int holder, int amount) {
-        int bill = (int) x.draw(2, drawee == 0 ? 9 : 0, drawee, holder, amount);
+        int bill = (int) x.draw(2, (holder + 1) % 10, drawee, holder, amount);
         x.take(bill, false);
         return bill;
     }

@@ -77,6 +77,10 @@ public final class RatesTest {
         due.is("just even is no gain", Due.NONE, x.turn());
         x.offer(4, 3, 5001);
         due.is("it gains", 134, x.turn());
+        x.offer(3, 4, 10000);
+        x.offer(4, 3, 10001);
+        due.is("it gains by a hair", 134, x.turn());
+        x.offer(3, 4, 20000);
         x.offer(4, 3, 0);
         x.offer(4, 2, 10000);
         x.offer(2, 3, 5001);

@@ -70,7 +70,7 @@ public final class TellTest {
         x.draw(0, 0, 1, 2, 3);
         Due.read(x, "bind;bind;free");
         x.owe(0, 1, 1000000);
-        x.owe(3, 2, 4);
+        x.owe(3, 0, 4);
         x.tell(1);
         x.tell(1);
         x.feed(0, 5);
