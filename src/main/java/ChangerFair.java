@@ -1216,9 +1216,8 @@ public final class ChangerFair {
         private static final int LEAST_VOTE = 5000;
         private static final int MOST_VALUE = 20000;
         private static final int LONGEST_TURN = 4;
-        private static final long PAR = 10000L * 10000L * 10000L * 10000L;
-        // By these the products of shorter turns are brought to the same measure as the longest.
-        private static final long[] SCALES = {PAR, 1000000000000L, 100000000L, 10000L, 1L};
+        private static final long UNIT = 10000L;
+        private static final long PAR = UNIT * UNIT * UNIT * UNIT;
 
         private final int[][] votes = new int[TOWNS][HOUSES];
         private final int[][] offers = new int[TOWNS][TOWNS];
@@ -1271,10 +1270,13 @@ public final class ChangerFair {
         int bestTurn() {
             bestProduct = PAR;
             bestFigures = 0;
+            // Brings the products of shorter turns to the same measure as those of the longest.
+            long scale = UNIT * UNIT;
             for (int towns = 2; towns <= LONGEST_TURN; towns++) {
                 for (int first = 0; first < TOWNS; first++) {
-                    extendTurn(first, first, 1 << first, 10 + first, SCALES[towns], towns - 1);
+                    extendTurn(first, first, 1 << first, 10 + first, scale, towns - 1);
                 }
+                scale = scale / UNIT;
             }
             return bestFigures;
         }

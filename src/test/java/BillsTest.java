@@ -57,6 +57,9 @@ public final class BillsTest {
         due.is("BEYOND is asked before FULL", Due.BEYOND, x.draw(0, 0, 1, 2, 0));
         due.is("count(1)", 40, x.count(1));
         due.is("about(39, 4)", 40, x.about(39, 4));
+        due.is("about(40, 4)", Due.BEYOND, x.about(40, 4));
+        due.is("take(40)", Due.BEYOND, x.take(40, false));
+        due.is("part", 0, x.part(0, 5, 1));
     }
 
     private static void pass() {

@@ -83,7 +83,7 @@ public final class DaysTest {
     private static void daysFull() {
         ChangerFair x = new ChangerFair();
         x.gain(200);
-        x.owe(0, 1, 1000000);
+        x.owe(1, 0, 1000000);
         x.owe(5, 4, 10);
         long debt = 1000000;
         long other = 10;
@@ -94,11 +94,11 @@ public final class DaysTest {
             debt += debt / 5;
             other += other * 200 / 1000;
         }
-        due.is("grown", debt, x.owes(0, 1));
+        due.is("grown", debt, x.owes(1, 0));
         long found = x.found(4);
         due.is("days(40) is full", Due.FULL, x.days(40));
         due.is("the days before have gone", day + 27, x.count(0));
-        due.is("nothing carried", debt, x.owes(0, 1));
+        due.is("nothing carried", debt, x.owes(1, 0));
         due.is("nothing carried there either", other, x.owes(5, 4));
         due.is("counted once", found + 1, x.found(4));
         due.is("days(1) is full", Due.FULL, x.days(1));
@@ -106,7 +106,7 @@ public final class DaysTest {
         due.is("found", found + 2, x.found(4));
         x.gain(0);
         due.is("days(1) without gain", day + 28, x.days(1));
-        due.is("no gain", debt, x.owes(0, 1));
+        due.is("no gain", debt, x.owes(1, 0));
         mostIsNotFull();
     }
 
