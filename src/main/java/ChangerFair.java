@@ -934,8 +934,10 @@ public final class ChangerFair {
             return debts[house][other];
         }
 
+        // Clearing can heap a debt up above the most, and one that is only made less may stay there,
+        // so what the other one would owe still is asked about too.
         boolean overfills(int house, int other, long v) {
-            return debts[house][other] - debts[other][house] + v > MOST_DEBT;
+            return Math.abs(debts[house][other] - debts[other][house] + v) > MOST_DEBT;
         }
 
         void charge(int house, int other, long v) {

@@ -13,11 +13,13 @@ public final class BillsTest {
         takeDays();
         pay();
         payFull();
+        payOfHeapedDebt();
         protest();
         recourseBack();
         recourseFreed();
         recourseSame();
         recourseFull();
+        recourseOfHeapedDebt();
         about();
         as();
         knows();
@@ -213,6 +215,56 @@ public final class BillsTest {
         due.is("pay up to the most", 5, x.pay(0));
         due.is("owes", 1000000000L, x.owes(0, 1));
         due.is("found(4)", 3, x.found(4));
+    }
+
+    private static void payOfHeapedDebt() {
+        ChangerFair x = new ChangerFair();
+        BookTest.heapDebt(x, 10);
+        x.draw(0, 2, 1, 0, 9);
+        x.draw(2, 2, 1, 0, 10);
+        x.draw(0, 2, 0, 1, 1);
+        x.draw(0, 2, 1, 1, 5);
+        for (int bill = 0; bill < 4; bill++) {
+            x.take(bill, false);
+        }
+        due.is("DAY is asked before FULL", Due.DAY, x.pay(0));
+        x.days(7);
+        due.is("9 less leave 1 too many", Due.FULL, x.pay(0));
+        due.is("1 more", Due.FULL, x.pay(2));
+        due.is("taken still", 1, x.about(0, 5));
+        due.is("owes still", 1000000010L, x.owes(0, 1));
+        due.is("nothing is owed to oneself", 0, x.pay(3));
+        due.is("10 less leave just the most", 10, x.pay(1));
+        due.is("owes", 1000000000L, x.owes(0, 1));
+        due.is("9 less", 9, x.pay(0));
+        due.is("owes", 999999991L, x.owes(0, 1));
+        due.is("found(4)", 2, x.found(4));
+    }
+
+    private static void recourseOfHeapedDebt() {
+        ChangerFair x = new ChangerFair();
+        BookTest.heapDebt(x, 10);
+        x.draw(0, 1, 3, 0, 9);
+        x.draw(0, 2, 3, 1, 9);
+        x.pass(1, 0);
+        x.draw(0, 2, 3, 1, 10);
+        x.pass(2, 0);
+        for (int bill = 0; bill < 3; bill++) {
+            x.take(bill, true);
+            x.protest(bill);
+        }
+        due.is("the drawer: 9 less leave 1 too many", Due.FULL, x.recourse(0, -1));
+        due.is("protested still", 3, x.about(0, 5));
+        due.is("the endorser: 9 less leave 1 too many", Due.FULL, x.recourse(1, 0));
+        due.is("holder still", 0, x.about(1, 3));
+        due.is("endorsers still", 1, x.about(1, 6));
+        due.is("owes still", 1000000010L, x.owes(0, 1));
+        due.is("the endorser: 10 less leave just the most", 1, x.recourse(2, 0));
+        due.is("owes", 1000000000L, x.owes(0, 1));
+        due.is("the drawer: 9 less", 1, x.recourse(0, -1));
+        due.is("the endorser: 9 less", 1, x.recourse(1, 0));
+        due.is("owes", 999999982L, x.owes(0, 1));
+        due.is("found(4)", 2, x.found(4));
     }
 
     private static void protest() {

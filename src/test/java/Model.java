@@ -232,9 +232,11 @@ final class Model {
             return;
         }
         long less = Math.min(v, debt(other, house));
-        ask(debt(house, other) + v - less > MOST && v > less, 4);
-        book.put(10 * other + house, debt(other, house) - less);
-        book.put(10 * house + other, debt(house, other) + v - less);
+        long owedThen = debt(other, house) - less;
+        long owesThen = debt(house, other) + v - less;
+        ask(owesThen > MOST || owedThen > MOST, 4);
+        book.put(10 * other + house, owedThen);
+        book.put(10 * house + other, owesThen);
     }
 
     private long pay(int bill) {

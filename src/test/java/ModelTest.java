@@ -9,6 +9,7 @@ public final class ModelTest {
     private static final String[] VALUES = {"late", "amount", "hops", "kind", "road"};
     private static final int RUNS = 1500;
     private static final int CALLS = 512;
+    private static final int HEAPED = 3;
 
     private final Random random;
     private final ChangerFair fair = new ChangerFair();
@@ -20,8 +21,10 @@ public final class ModelTest {
 
     private ModelTest(long seed) {
         random = new Random(seed);
-        houses = 2 + random.nextInt(9);
+        int many = 2 + random.nextInt(9);
         style = random.nextInt(8);
+        // Few houses, so that acts meet the heaped debt often.
+        houses = style == HEAPED ? 2 + many % 3 : many;
     }
 
     public static void main(String[] args) {
@@ -39,9 +42,32 @@ public final class ModelTest {
     }
 
     private void go(int[] answers) {
+        if (style == HEAPED) {
+            heapDebt(answers);
+        }
         while (calls.size() < CALLS && !wrong) {
             step(answers);
         }
+    }
+
+    /** Two debts of house 0, each below the most, become one above it by clearing. */
+    private void heapDebt(int[] answers) {
+        both(answers, "gain", 200);
+        both(answers, "owe", 0, 1, 1000000);
+        both(answers, "owe", 0, 2, 1000000);
+        both(answers, "owe", 2, 1, 1000000);
+        for (int day = 0; day < 34 * 28; day += 56) {
+            both(answers, "days", 56);
+        }
+        both(answers, "gain", within(0, 200));
+        long excess = random.nextInt(2) == 0 ? random.nextInt(60) : random.nextInt(3000000);
+        long left = 1000000000L + excess - asked("owes", 0, 1) - asked("owes", 0, 2);
+        while (left > 0) {
+            long v = Math.min(left, 1000000L);
+            both(answers, "owe", 0, 1, v);
+            left -= v;
+        }
+        both(answers, "clear");
     }
 
     private int house() {
