@@ -180,30 +180,14 @@ public final class BillsTest {
         due.is("the day of PAID", 27, x.about(3, 11));
     }
 
-    /** Makes house 0 owe house 1 just the greatest debt, on some day 7 .. 27 of a fair. */
-    static void fillDebt(ChangerFair x) {
-        x.gain(200);
-        x.owe(0, 1, 1000000);
-        for (int i = 0; i < 37; i++) {
-            x.days(28);
-        }
-        x.gain(0);
-        long left = 1000000000L - x.owes(0, 1);
-        for (int i = 0; i < 400 && left > 0; i++) {
-            int v = (int) Math.min(left, 1000000L);
-            x.owe(0, 1, v);
-            left -= v;
-        }
-        x.days(7);
-    }
-
     private static void payFull() {
         ChangerFair x = new ChangerFair();
         x.draw(0, 2, 0, 1, 5);
         x.draw(0, 2, 1, 0, 4);
         x.take(0, false);
         x.take(1, false);
-        fillDebt(x);
+        Debts.grow(x, 0, 1, Debts.MOST);
+        x.days(7);
         due.is("owes", 1000000000L, x.owes(0, 1));
         due.is("pay above the most", Due.FULL, x.pay(0));
         due.is("owe above the most", Due.FULL, x.owe(0, 1, 1));
@@ -219,7 +203,7 @@ public final class BillsTest {
 
     private static void payOfHeapedDebt() {
         ChangerFair x = new ChangerFair();
-        BookTest.heapDebt(x, 10);
+        Debts.heap(x, 10);
         x.draw(0, 2, 1, 0, 9);
         x.draw(2, 2, 1, 0, 10);
         x.draw(0, 2, 0, 1, 1);
@@ -243,7 +227,7 @@ public final class BillsTest {
 
     private static void recourseOfHeapedDebt() {
         ChangerFair x = new ChangerFair();
-        BookTest.heapDebt(x, 10);
+        Debts.heap(x, 10);
         x.draw(0, 1, 3, 0, 9);
         x.draw(0, 2, 3, 1, 9);
         x.pass(1, 0);
@@ -396,7 +380,8 @@ public final class BillsTest {
         x.pass(0, 1);
         x.take(0, true);
         x.protest(0);
-        fillDebt(x);
+        Debts.grow(x, 0, 1, Debts.MOST);
+        x.days(7);
         due.is("endorser 1 can't owe more", Due.FULL, x.recourse(0, 1));
         due.is("the drawer can't owe more", Due.FULL, x.recourse(0, -1));
         due.is("protested still", 3, x.about(0, 5));

@@ -41,8 +41,7 @@ public final class BookTest {
     }
 
     private static void oweFull() {
-        ChangerFair x = new ChangerFair();
-        BillsTest.fillDebt(x);
+        ChangerFair x = Debts.full();
         due.is("owe at the most", Due.FULL, x.owe(0, 1, 1));
         due.is("BEYOND is asked before FULL", Due.BEYOND, x.owe(0, 1, 0));
         due.is("the other way", 0, x.owe(1, 0, 10));
@@ -221,29 +220,9 @@ public final class BookTest {
         due.is("part", 1000000000L, x.part(0, 1000000000, 1));
     }
 
-    /** House 0 owes house 1 1000000000 and an excess, heaped up by clearing; it is day 0 of a fair. */
-    static void heapDebt(ChangerFair x, int excess) {
-        x.gain(200);
-        x.owe(0, 1, 1000000);
-        x.owe(0, 2, 1000000);
-        x.owe(2, 1, 1000000);
-        for (int i = 0; i < 34; i++) {
-            x.days(28);
-        }
-        x.gain(0);
-        long left = 1000000000L + excess - x.owes(0, 1) - x.owes(0, 2);
-        for (int i = 0; i < 40 && left > 0; i++) {
-            int v = (int) Math.min(left, 1000000L);
-            x.owe(0, 1, v);
-            left -= v;
-        }
-        x.clear();
-    }
-
     /** A debt above the most that would only become less is still one that would be above it. */
     private static void oweOfHeapedDebt() {
-        ChangerFair x = new ChangerFair();
-        heapDebt(x, 10);
+        ChangerFair x = Debts.heaped(10);
         due.is("owes", 1000000010L, x.owes(0, 1));
         due.is("9 less leave 1 too many", Due.FULL, x.owe(1, 0, 9));
         due.is("1 less leaves 9 too many", Due.FULL, x.owe(1, 0, 1));
@@ -257,8 +236,7 @@ public final class BookTest {
         due.is("owes", 1000000000L, x.owes(0, 1));
         due.is("1 less", 0, x.owe(1, 0, 1));
         due.is("owes", 999999999L, x.owes(0, 1));
-        ChangerFair y = new ChangerFair();
-        heapDebt(y, 1000001);
+        ChangerFair y = Debts.heaped(1000001);
         due.is("1000000 less leave 1 too many", Due.FULL, y.owe(1, 0, 1000000));
         y.coin(0, 1, 1000);
         y.purse(0, 0, 3);

@@ -111,8 +111,7 @@ public final class DaysTest {
     }
 
     private static void mostIsNotFull() {
-        ChangerFair x = new ChangerFair();
-        BillsTest.fillDebt(x);
+        ChangerFair x = Debts.full();
         x.gain(0);
         long day = x.count(0);
         due.is("a debt of 1000000000 may be carried", day + 60, x.days(60));
