@@ -17,6 +17,7 @@ final class BillsEdges {
         drawBeyond();
         drawKind();
         drawFull();
+        billBehindTheLast();
         passEndorsers();
         passBeyond();
         passState();
@@ -152,6 +153,33 @@ final class BillsEdges {
         x.days(7);
         x.pay(0);
         s.is("a bill that is paid makes no room", Due.FULL, x.draw(0, 0, 1, 2, 5));
+    }
+
+    /** With all 40 drawn there is no bill 40 either. */
+    private void billBehindTheLast() {
+        ChangerFair x = new ChangerFair();
+        for (int bill = 0; bill < 40; bill++) {
+            x.draw(BILL, 0, 1, 2, 5);
+        }
+        for (int bill = 40; bill <= 41; bill++) {
+            s.promise(7, "BEYOND: there is no such BILL or house.");
+            s.ask(x, Due.BEYOND, "pass", bill, 3);
+            s.promise(8, "BEYOND.");
+            s.ask(x, Due.BEYOND, "take", bill, 0);
+            s.promise(9, "BEYOND.");
+            s.ask(x, Due.BEYOND, "pay", bill);
+            s.promise(10, "BEYOND.");
+            s.ask(x, Due.BEYOND, "protest", bill);
+            s.promise(11, "BEYOND: there is no such BILL.");
+            s.ask(x, Due.BEYOND, "recourse", bill, -1);
+            s.promise(12, "BEYOND: there is no such BILL, or another what.");
+            s.ask(x, Due.BEYOND, "about", bill, 0);
+            s.promise(13, "BEYOND: there is no such BILL, or kind.");
+            s.ask(x, Due.BEYOND, "as", bill, 0);
+            s.promise(14, "BEYOND: there is no such BILL or house, or day is below 0.");
+            s.ask(x, Due.BEYOND, "knows", 0, bill, 0);
+        }
+        s.is("bill 39 is there", 0, x.knows(0, 39, 0));
     }
 
     private void passEndorsers() {

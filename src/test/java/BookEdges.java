@@ -20,6 +20,7 @@ final class BookEdges {
         owes();
         net();
         plan();
+        planOfNow();
         payment();
         clear();
         clearAboveTheMost();
@@ -278,6 +279,42 @@ final class BookEdges {
         ChangerFair groups = withNets(1, -1, 1, -1, 1, -1, 1, -1, 1, -1);
         s.is("the most groups", 5, groups.plan(true));
         s.is("their payments", 5, groups.plan(false));
+    }
+
+    /** Asked before and behind each act that changes what is owed. */
+    private void planOfNow() {
+        s.promise(22, "How many payments THE PLAN has (groups: how many GROUPS).");
+        ChangerFair x = new ChangerFair();
+        s.is("at first", 0, x.plan(false));
+        x.owe(0, 1, 1000);
+        s.is("behind owe()", 1, x.plan(false));
+        x.days(28);
+        s.is("behind days()", 1020, x.payment(0, 2));
+        x.coin(0, 20, 1000);
+        x.purse(0, 0, 1);
+        x.settle(0, 1);
+        s.is("behind settle()", 1000, x.payment(0, 2));
+        x.purse(0, 0, 50);
+        x.settle(0, 1);
+        s.is("behind settle() of all", 0, x.plan(true));
+        x.draw(0, 2, 3, 4, 5);
+        x.draw(0, 5, 6, 7, 5);
+        x.take(0, false);
+        x.take(1, true);
+        x.protest(1);
+        s.is("nothing is owed yet", 0, x.plan(false));
+        x.recourse(1, -1);
+        s.is("behind recourse()", 1, x.plan(false));
+        x.days(7);
+        x.pay(0);
+        s.is("behind pay()", 2, x.plan(false));
+        x.owe(4, 5, 7);
+        s.is("behind owe()", 2, x.plan(false));
+        x.clear();
+        s.is("behind clear()", 2, x.plan(false));
+        x.owe(7, 5, 1);
+        x.owe(5, 7, 1);
+        s.is("there and back", 2, x.plan(false));
     }
 
     private void payment() {

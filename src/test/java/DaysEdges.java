@@ -11,9 +11,11 @@ final class DaysEdges {
         newObject();
         daysGo();
         carriedBehindDay27();
+        everyDebtIsCarried();
         carriedByGain();
         daysBeyond();
         daysFullByOne();
+        daysFullOfEachDebt();
         daysFullOnTheWay();
         daysFullOfHeapedDebt();
         gain();
@@ -95,6 +97,21 @@ final class DaysEdges {
         s.is("60 days from day 0 on have two days 27", 1400 + 140 + 154, y.owes(0, 9));
     }
 
+    private void everyDebtIsCarried() {
+        s.promise(2, "Behind each day 27 debts are carried: each becomes");
+        ChangerFair x = new ChangerFair();
+        x.gain(100);
+        for (int house = 0; house < 10; house++) {
+            x.owe(house, (house + 1) % 10, 10 * (house + 1));
+            x.owe((house + 3) % 10, house, 100 * (house + 1));
+        }
+        x.days(28);
+        for (int house = 0; house < 10; house++) {
+            s.ask(x, 11 * (house + 1), "owes", house, (house + 1) % 10);
+            s.ask(x, 110 * (house + 1), "owes", (house + 3) % 10, house);
+        }
+    }
+
     private void carriedByGain() {
         s.promise(2, "each becomes as much more as it times GAIN by 1000.");
         long[][] cases = {{1, 200, 1}, {4, 200, 4}, {5, 200, 6}, {49, 20, 49}, {50, 20, 51}, {99, 20, 100},
@@ -146,6 +163,20 @@ final class DaysEdges {
             s.is(one[0] + ": owes", full ? one[0] : one[2], x.owes(7, 8));
             s.is(one[0] + ": count(0)", full ? day : day + 1, x.count(0));
             s.is(one[0] + ": found(4)", full ? 1 : 0, x.found(4));
+        }
+    }
+
+    private void daysFullOfEachDebt() {
+        s.promise(2, "FULL: a debt would be above 1000000000");
+        for (int house = 0; house < 10; house++) {
+            for (int other = 0; other < 10; other++) {
+                if (house != other) {
+                    ChangerFair x = new ChangerFair();
+                    Debts.grow(x, house, other, Debts.MOST);
+                    x.gain(1);
+                    s.is("house " + house + " owes house " + other, Due.FULL, x.days(28));
+                }
+            }
         }
     }
 

@@ -15,6 +15,7 @@ final class PartEdges {
         shares();
         leftOver();
         secondRank();
+        askedAgain();
         gets();
         beyond();
     }
@@ -211,6 +212,28 @@ final class PartEdges {
         parted(x, 59, 10, 10, 30, 9);
         parted(x, 60, 10, 10, 30, 10);
         parted(x, 61, 10, 10, 30, 10);
+    }
+
+    /** Claims of one asking don't stay for the next, of whatever house. */
+    private void askedAgain() {
+        s.point(7, "(a house's claim: the AMOUNTS of these, in all, at most what it owes it now),");
+        for (int creditor = 0; creditor < 9; creditor++) {
+            ChangerFair x = new ChangerFair();
+            int bill = pledge(x, 9, creditor, 10);
+            x.days(7);
+            x.pay(bill);
+            int other = (creditor + 1) % 9;
+            x.owe(9, creditor, 90);
+            x.owe(9, other, 90);
+            for (int i = 0; i < 3; i++) {
+                s.ask(x, 55, "part", 9, 100, creditor);
+                s.ask(x, 45, "part", 9, 100, other);
+            }
+            int debtor = (creditor + 2) % 9;
+            x.owe(debtor, creditor, 50);
+            x.owe(debtor, other, 50);
+            s.is("another house has given no pledge", 25, x.part(debtor, 50, creditor));
+        }
     }
 
     private void gets() {
