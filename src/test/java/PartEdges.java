@@ -212,6 +212,13 @@ final class PartEdges {
         parted(x, 59, 10, 10, 30, 9);
         parted(x, 60, 10, 10, 30, 10);
         parted(x, 61, 10, 10, 30, 10);
+        ChangerFair one = pledged(100);
+        one.owe(0, 2, 50);
+        s.is("not even enough for RANK 0", 0, one.part(0, 99, 2));
+        s.is("nothing is left", 0, one.part(0, 100, 2));
+        s.is("1 is left", 1, one.part(0, 101, 2));
+        s.is("just enough", 50, one.part(0, 150, 2));
+        s.is("more than enough", 50, one.part(0, 151, 2));
     }
 
     /** Claims of one asking don't stay for the next, of whatever house. */
