@@ -315,6 +315,14 @@ final class BookEdges {
         x.owe(7, 5, 1);
         x.owe(5, 7, 1);
         s.is("there and back", 2, x.plan(false));
+        x.owe(8, 9, 100);
+        x.purse(8, 0, 1);
+        x.settle(8, 9);
+        s.is("behind owe() and settle()", 3, x.plan(false));
+        s.is("the last payment", 80, x.payment(2, 2));
+        x.owe(8, 9, 20);
+        x.days(21);
+        s.is("behind owe() and days()", 102, x.payment(2, 2));
     }
 
     private void payment() {
