@@ -276,7 +276,9 @@ public final class ChangerFair {
     }
 
     public long read() {
-        if (!reader.readInto(draft)) {
+        boolean good = reader.readText(draft);
+        reader.endText(good);
+        if (!good) {
             return finding(TEXT);
         }
         Custom old = custom;
@@ -711,7 +713,7 @@ public final class ChangerFair {
         }
     }
 
-    /** The tape and the reading of it, word by word; where the reading stops is the fault. */
+    /** The tape and the reading of it, word by word. */
     private static final class CustomReader {
         // The first words are the values, so that their numbers are places in a row of facts.
         static final int LATE = 0;
@@ -755,16 +757,15 @@ public final class ChangerFair {
             }
         }
 
-        boolean readInto(Custom draft) {
-            draft.forget();
-            place = 0;
-            boolean good = readText(draft);
+        // Where the reading has stopped is the fault.
+        void endText(boolean good) {
             faultPlace = good ? NO_FAULT : wordPlace;
             length = 0;
-            return good;
         }
 
-        private boolean readText(Custom draft) {
+        boolean readText(Custom draft) {
+            draft.forget();
+            place = 0;
             nextWord();
             if (word == END) {
                 return true;
@@ -832,9 +833,10 @@ public final class ChangerFair {
             if (place >= length) {
                 word = END;
             } else if (isLetter(tape[place])) {
-                readLetters();
+                word = letterWord();
             } else if (isFigure(tape[place])) {
-                readFigures();
+                word = NUMBER;
+                number = numberWord();
             } else {
                 word = signWord(tape[place]);
                 place++;
@@ -864,24 +866,20 @@ public final class ChangerFair {
             }
         }
 
-        private void readFigures() {
-            word = NUMBER;
-            number = 0;
+        private int numberWord() {
+            int figures = 0;
             while (place < length && isFigure(tape[place])) {
                 // Held just above the limit, so that a long row can't wrap round to a small number.
-                number = Math.min(number * 10 + (tape[place] - '0'), MOST_NUMBER + 1);
+                figures = Math.min(figures * 10 + (tape[place] - '0'), MOST_NUMBER + 1);
                 place++;
             }
-        }
-
-        private void readLetters() {
-            while (place < length && isLetter(tape[place])) {
-                place++;
-            }
-            word = letterWord();
+            return figures;
         }
 
         private int letterWord() {
+            while (place < length && isLetter(tape[place])) {
+                place++;
+            }
             if (spells("bind")) {
                 return BIND;
             }
@@ -1217,6 +1215,7 @@ public final class ChangerFair {
     private static final class Rates {
         private static final int LEAST_VOTE = 5000;
         private static final int MOST_VALUE = 20000;
+        private static final int SHORTEST_TURN = 2;
         private static final int LONGEST_TURN = 4;
         private static final long UNIT = 10000L;
         private static final long PAR = UNIT * UNIT * UNIT * UNIT;
@@ -1224,8 +1223,6 @@ public final class ChangerFair {
         private final int[][] votes = new int[TOWNS][HOUSES];
         private final int[][] offers = new int[TOWNS][TOWNS];
         private final int[] sorted = new int[HOUSES];
-        private long bestProduct;
-        private int bestFigures;
 
         static boolean isVote(int v) {
             return v == 0 || (v >= LEAST_VOTE && v <= MOST_VALUE);
@@ -1267,40 +1264,60 @@ public final class ChangerFair {
             sorted[at] = v;
         }
 
-        // Turns are tried in the order in which equal ones are preferred, so only a greater
-        // product takes the place of one found before.
+        // Rings are tried in the order in which equal ones are preferred, so only a greater product
+        // takes the place of one found before.
         int bestTurn() {
-            bestProduct = PAR;
-            bestFigures = 0;
+            long bestProduct = PAR;
+            int best = 0;
             // Brings the products of shorter turns to the same measure as those of the longest.
             long scale = UNIT * UNIT;
-            for (int towns = 2; towns <= LONGEST_TURN; towns++) {
-                for (int first = 0; first < TOWNS; first++) {
-                    extendTurn(first, first, 1 << first, 10 + first, scale, towns - 1);
+            int rings = TOWNS * TOWNS;
+            for (int towns = SHORTEST_TURN; towns <= LONGEST_TURN; towns++) {
+                for (int ring = 0; ring < rings; ring++) {
+                    long product = scale * productOf(ring, towns);
+                    if (product > bestProduct) {
+                        bestProduct = product;
+                        best = figuresOf(ring, towns);
+                    }
                 }
                 scale = scale / UNIT;
+                rings = rings * TOWNS;
             }
-            return bestFigures;
+            return best;
         }
 
-        private void extendTurn(int first, int last, int used, int figures, long product, int open) {
-            if (open <= 0) {
-                closeTurn(product * offers[last][first], figures);
-                return;
-            }
-            for (int next = first + 1; next < TOWNS; next++) {
-                if ((used & (1 << next)) == 0 && offers[last][next] != 0) {
-                    extendTurn(first, next, used | (1 << next), figures * 10 + next,
-                            product * offers[last][next], open - 1);
+        // A ring is the number whose figures to the base TOWNS are its towns, so that rings in order
+        // are numbers in order. 0: its towns are no turn told from its least town on.
+        private long productOf(int ring, int towns) {
+            int last = ring % TOWNS;
+            int next = last;
+            int used = 1 << last;
+            int ahead = ring / TOWNS;
+            long product = 1;
+            for (int i = 1; i < towns; i++) {
+                int town = ahead % TOWNS;
+                if ((used & (1 << town)) != 0) {
+                    return 0;
                 }
+                used |= 1 << town;
+                product *= offers[town][next];
+                next = town;
+                ahead = ahead / TOWNS;
             }
+            boolean fromLeast = (used & ((1 << next) - 1)) == 0;
+            return fromLeast ? product * offers[last][next] : 0;
         }
 
-        private void closeTurn(long product, int figures) {
-            if (product > bestProduct) {
-                bestProduct = product;
-                bestFigures = figures;
+        private static int figuresOf(int ring, int towns) {
+            int figures = 0;
+            int unit = 1;
+            int ahead = ring;
+            for (int i = 0; i < towns; i++) {
+                figures += ahead % TOWNS * unit;
+                unit *= 10;
+                ahead = ahead / TOWNS;
             }
+            return unit + figures;
         }
     }
 

@@ -1,7 +1,10 @@
 import java.io.IOException;
+import java.lang.reflect.Modifier;
 import java.nio.charset.StandardCharsets;
 import java.nio.file.Files;
 import java.nio.file.Path;
+import java.util.Arrays;
+import java.util.List;
 import java.util.regex.Matcher;
 import java.util.regex.Pattern;
 
@@ -27,7 +30,10 @@ public final class LanguageTest {
             due.holds(pattern + " stands in the source", !found.find());
         }
         fields(code);
+        fieldCounts();
         methods(code);
+        calls(code);
+        library(code);
         due.end();
     }
 
@@ -45,6 +51,18 @@ public final class LanguageTest {
         }
     }
 
+    private static void fieldCounts() {
+        fieldCount(ChangerFair.class);
+        for (Class<?> inside : ChangerFair.class.getDeclaredClasses()) {
+            fieldCount(inside);
+        }
+    }
+
+    private static void fieldCount(Class<?> type) {
+        long own = Arrays.stream(type.getDeclaredFields()).filter(f -> !Modifier.isStatic(f.getModifiers())).count();
+        due.holds(type.getName() + " has " + own + " fields", own <= 20);
+    }
+
     private static void methods(String code) {
         Matcher starts = Pattern.compile(
                 "(?m)^( +)(?:public |private )?(?:static )?(?:[\\w\\[\\]]+ )?(\\w+)\\(([^)]*)\\) \\{$").matcher(code);
@@ -60,5 +78,27 @@ public final class LanguageTest {
             due.holds(starts.group(2) + " has too many parameters", starts.group(3).split(",").length <= 7);
         }
         due.holds("methods found: " + methods, methods > 90);
+    }
+
+    /** Calls go at most eight deep, the face's and the library's own counted too, and none in a circle. */
+    private static void calls(String code) {
+        CallGraph graph = new CallGraph(code);
+        due.holds("methods found: " + graph.methods(), graph.methods().size() > 90);
+        for (String method : graph.methods()) {
+            List<String> chain = graph.deepest(method);
+            due.holds("calls go " + chain.size() + " deep: " + chain, chain.size() <= 8);
+        }
+        due.holds("methods come to call themselves: " + graph.circles(), graph.circles().isEmpty());
+        // So deep it goes, by the eye: the graph would be blind if it told less.
+        due.is("the chain of read()", 8, graph.deepest("ChangerFair.read").size());
+    }
+
+    /** Of the library only what the program needs, all of it in the rules' list. */
+    private static void library(String code) {
+        Matcher used = Pattern.compile("\\b([A-Z]\\w*)\\.(\\w+)\\(").matcher(code);
+        while (used.find()) {
+            String call = used.group(1) + "." + used.group(2);
+            due.holds(call + " is called", call.matches("(Math\\.(abs|max|min)|(Purses|Rates)\\.\\w+)"));
+        }
     }
 }

@@ -9,14 +9,15 @@ import java.util.function.Supplier;
  * the tape): of every act every finding that the document names, by every argument that brings it.
  */
 public final class UnchangedTest {
-    private static final String[] NAMED = {
+    /** Of each act the findings that the document names, in the order in which they are told. */
+    static final String[] NAMED = {
         "days BEYOND FULL", "gain BEYOND", "road BEYOND", "seat BEYOND", "draw BEYOND KIND FULL",
         "pass BEYOND STATE KIND FULL", "take BEYOND STATE DAY", "pay BEYOND STATE DAY FULL", "protest BEYOND STATE",
-        "recourse BEYOND STATE NONE KIND FULL", "about NONE BEYOND", "as BEYOND KIND", "knows BEYOND NONE",
+        "recourse BEYOND STATE NONE KIND FULL", "about BEYOND NONE", "as BEYOND KIND", "knows BEYOND NONE",
         "feed BEYOND FULL", "binds BEYOND", "owe BEYOND FULL", "owes BEYOND", "net BEYOND", "payment BEYOND NONE",
         "coin BEYOND", "purse BEYOND", "has BEYOND", "settle BEYOND NONE", "vote BEYOND", "rate BEYOND NONE",
         "offer BEYOND", "turn NONE", "part BEYOND", "tell FULL", "count BEYOND", "found BEYOND"};
-    private static final String[] FINDINGS = {"", "BEYOND", "NONE", "STATE", "FULL", "KIND", "TEXT", "DAY"};
+    static final String[] FINDINGS = {"", "BEYOND", "NONE", "STATE", "FULL", "KIND", "TEXT", "DAY"};
     private static final int PARTS = 4;
 
     private static final Due due = new Due("UnchangedTest");
